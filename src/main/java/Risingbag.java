@@ -350,7 +350,8 @@ public final class Risingbag {
     }
 
     public int unlike(int row) throws IndexOutOfBoundsException {
-        return countUnlike(rowOf(row));
+        sortCopyOf(rowOf(row));
+        return sorted.countRuns();
     }
 
     public int mode(int row) throws IndexOutOfBoundsException, IllegalStateException {
@@ -474,11 +475,6 @@ public final class Risingbag {
     private void sortCopyOf(Row r) {
         sorted.become(r, 0, r.many);
         sorted.arrange(0, sorted.many, BY_VALUES);
-    }
-
-    private int countUnlike(Row r) {
-        sortCopyOf(r);
-        return sorted.countRuns();
     }
 
     private void writeValues(Row r) {
@@ -614,8 +610,8 @@ public final class Risingbag {
         d = digestSigns(d);
         d = d * 31 + (r.rises() ? 1 : 0);
         d = d * 31 + r.countInversions();
-        d = d * 31 + countUnlike(r);
         sortCopyOf(r);
+        d = d * 31 + sorted.countRuns();
         for (int k = 0; k < sorted.many; k++) {
             d = d * 31 + sorted.valueOf(k);
         }

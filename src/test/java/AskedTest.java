@@ -236,6 +236,10 @@ final class AskedTest {
         c.same("last(0, 127)", x.last(0, 127), 5);
         c.same("last(0, 4)", x.last(0, 4), -1);
         c.same("of nothing", x.last(1, 4), -1);
+        x.resize(0, 5);
+        c.same("where more have been", x.last(0, 127), 4);
+        x.resize(0, 4);
+        c.same("that has gone", x.last(0, 127), -1);
         Check.put(x, 2, 2, 2, 1);
         c.illegalState(x, "last(2, 2)", () -> x.last(2, 2));
         c.argument(x, "last(2, 128)", () -> x.last(2, 128));

@@ -95,6 +95,10 @@ final class RowsTest {
         c.same("tag(2, 1, 7)", x.tag(2, 1, 7), 0);
         c.same("tags", x.tags(2), "[0, 7]");
         c.same("the values stay", x.text(2), "[3, 1]");
+        x.make(1, 4, 24);
+        c.same("tag of the last place", x.tag(1, 23, 5), 0);
+        c.same("tags", x.tags(1), "[" + "0, ".repeat(23) + "5]");
+        c.same("tag of the last place", x.tag(1, 23, 6), 5);
         c.index(x, "tag(6, 0, 0)", () -> x.tag(6, 0, 0));
         c.index(x, "tag(-1, 0, 0)", () -> x.tag(-1, 0, 0));
         c.index(x, "tag(2, 2, 100)", () -> x.tag(2, 2, 100));

@@ -57,6 +57,11 @@ final class SeveralRowsTest {
         c.same("into itself", x.copyPart(0, 1, 6, 0), 5);
         c.same("text", x.text(0), "[2, 3, 4, 0, 0]");
         c.same("tags", x.tags(0), "[6, 7, 8, 0, 0]");
+        Check.put(x, 2, 4, 8, 8, 8);
+        Check.label(x, 2, 8, 8, 8);
+        x.resize(2, 1);
+        c.same("beyond the end, where more have been", x.copyPart(2, 0, 3, 1), 3);
+        c.same("text and tags", x.text(1) + x.tags(1), "[8, 0, 0][8, 0, 0]");
         c.same("of nothing", x.copyPart(5, 0, 0, 1), 0);
         c.same("kind", x.kind(1), 0);
         c.same("refusals", x.house(4), 0);
@@ -163,6 +168,11 @@ final class SeveralRowsTest {
         c.same("mismatch(0, 4)", x.mismatch(0, 4), 0);
         c.same("mismatch(4, 4)", x.mismatch(4, 4), -1);
         c.same("mismatch(4, 5)", x.mismatch(4, 5), -9);
+        x.copy(0, 1);
+        x.resize(1, 2);
+        c.same("where more have been", x.mismatch(0, 1), 2);
+        c.same("and the other way", x.mismatch(1, 0), 2);
+        c.same("the shorter one is less", x.compare(1, 0), -1);
         c.same("this is no refusal that is counted", x.house(4), 0);
         c.index(x, "mismatch(6, 0)", () -> x.mismatch(6, 0));
         c.index(x, "mismatch(0, 6)", () -> x.mismatch(0, 6));
@@ -206,6 +216,9 @@ final class SeveralRowsTest {
         c.same("areAlike(0, 1)", x.areAlike(0, 1), true);
         c.same("areAlike(0, 2)", x.areAlike(0, 2), false);
         c.same("areAlike(0, 3)", x.areAlike(0, 3), false);
+        Check.put(x, 2, 4, 3, 2, 2);
+        c.same("unlike at the first place", x.areAlike(0, 2), false);
+        c.same("and the other way", x.areAlike(2, 0), false);
         c.same("areAlike(3, 0)", x.areAlike(3, 0), false);
         c.same("areAlike(0, 4)", x.areAlike(0, 4), false);
         c.same("nothing of one kind", x.areAlike(5, 5), true);
