@@ -74,8 +74,8 @@ final class AskedTest {
         c.index(x, "tagAt(0, -1)", () -> x.tagAt(0, -1));
         c.index(x, "the place goes ahead of the kind", () -> x.tagAt(1, 0));
         for (int kind = 0; kind < 4; kind++) {
-            x.make(2, kind, 1);
-            c.illegalState(x, "tagAt(2, 0)", () -> x.tagAt(2, 0));
+            Risingbag y = Check.with(2, kind, 1);
+            c.illegalState(y, "tagAt(2, 0)", () -> y.tagAt(2, 0));
         }
         noSuchRow(x, "tagAt", row -> x.tagAt(row, 0));
     }
@@ -133,10 +133,11 @@ final class AskedTest {
         for (int place = 0; place < 6; place++) {
             c.same("inversionsAt(0, " + place + ")", x.inversionsAt(0, place), due[place]);
         }
-        c.index(x, "inversionsAt(0, 6)", () -> x.inversionsAt(0, 6));
-        c.index(x, "inversionsAt(0, -1)", () -> x.inversionsAt(0, -1));
-        c.index(x, "inversionsAt(1, 0)", () -> x.inversionsAt(1, 0));
-        noSuchRow(x, "inversionsAt", row -> x.inversionsAt(row, 0));
+        Risingbag y = Check.with(0, 0, 3, 2, 1);
+        c.index(y, "inversionsAt(0, 3)", () -> y.inversionsAt(0, 3));
+        c.index(y, "inversionsAt(0, -1)", () -> y.inversionsAt(0, -1));
+        c.index(y, "inversionsAt(1, 0)", () -> y.inversionsAt(1, 0));
+        noSuchRow(y, "inversionsAt", row -> y.inversionsAt(row, 0));
     }
 
     private void counts() {
@@ -156,10 +157,9 @@ final class AskedTest {
     }
 
     private void wrongCounts() {
-        Risingbag x = new Risingbag();
         int[][] wrong = {{2, -129}, {2, 128}, {3, -1}, {3, 256}, {4, -1000}, {4, 1000}};
         for (int[] pair : wrong) {
-            x.make(0, pair[0], 3);
+            Risingbag x = Check.with(0, pair[0], 0, 0, 0);
             c.promise(31);
             c.argument(x, "smaller(0, " + pair[1] + ")", () -> x.smaller(0, pair[1]));
             c.promise(32);
@@ -169,16 +169,19 @@ final class AskedTest {
         }
         int[][] let = {{2, -128}, {2, 127}, {3, 0}, {3, 255}, {4, -999}, {4, 999}};
         for (int[] pair : let) {
-            x.make(0, pair[0], 3);
+            Risingbag x = Check.with(0, pair[0], 0, 0, 0);
             int all = x.smaller(0, pair[1]) + x.likes(0, pair[1]) + x.greater(0, pair[1]);
             c.same("all of " + pair[1], all, 3);
         }
         c.promise(31);
-        noSuchRow(x, "smaller", row -> x.smaller(row, 1000));
+        Risingbag first = Check.with(0, 4, 1);
+        noSuchRow(first, "smaller", row -> first.smaller(row, 1000));
         c.promise(32);
-        noSuchRow(x, "likes", row -> x.likes(row, 1000));
+        Risingbag second = Check.with(0, 4, 1);
+        noSuchRow(second, "likes", row -> second.likes(row, 1000));
         c.promise(33);
-        noSuchRow(x, "greater", row -> x.greater(row, 1000));
+        Risingbag third = Check.with(0, 4, 1);
+        noSuchRow(third, "greater", row -> third.greater(row, 1000));
     }
 
     private void search() {

@@ -1,9 +1,15 @@
+import java.util.Arrays;
 import java.util.Objects;
+import java.util.Set;
+import java.util.TreeSet;
+import java.util.function.Supplier;
 
 /** What the tests share: counts the answers that are due and prints those that are not. */
 final class Check {
     private final String test;
+    private final Set<String> sentences = new TreeSet<>();
     private int promise;
+    private String sentence = "";
     private int passed;
     private int failed;
 
@@ -13,6 +19,20 @@ final class Check {
 
     void promise(int number) {
         promise = number;
+        sentence = "";
+    }
+
+    /** What comes next tests these sentences of the document, below the promise (0: of its description). */
+    void sentences(int number, String... words) {
+        promise(number);
+        for (String one : words) {
+            sentences.add(number + ": " + one);
+        }
+        sentence = " (" + words[0] + ")";
+    }
+
+    Set<String> sentences() {
+        return sentences;
     }
 
     void same(String what, Object got, Object due) {
@@ -20,7 +40,8 @@ final class Check {
             passed++;
         } else {
             failed++;
-            System.out.println(test + ", promise " + promise + ": " + what + " answered " + got + ", due is " + due);
+            System.out.println(test + ", promise " + promise + sentence + ": " + what + " answered " + got
+                + ", due is " + due);
         }
     }
 
@@ -43,6 +64,23 @@ final class Check {
         thrown(x, what, IllegalStateException.class, call);
     }
 
+    /** The call answers -9, and nothing changes by it but how often something was refused. */
+    void refused(Risingbag x, String what, Supplier<?> call) {
+        String things = things(x);
+        int[] house = house(x);
+        same(what, call.get(), -9);
+        house[4]++;
+        same("the things after " + what, things(x), things);
+        same("the house after " + what, Arrays.toString(house(x)), Arrays.toString(house));
+    }
+
+    /** The call answers just this, and everything that can be asked answers as before. */
+    void asked(Risingbag x, String what, Object due, Supplier<?> call) {
+        String before = state(x);
+        same(what, call.get(), due);
+        same("the state after " + what, state(x), before);
+    }
+
     static String thrownBy(Runnable call) {
         try {
             call.run();
@@ -52,20 +90,28 @@ final class Check {
         }
     }
 
+    static String row(Risingbag x, int row) {
+        return x.kind(row) + x.text(row) + x.tags(row);
+    }
+
     static String things(Risingbag x) {
         StringBuilder all = new StringBuilder();
         for (int row = 0; row < 6; row++) {
-            all.append(x.kind(row)).append(x.text(row)).append(x.tags(row)).append(' ');
+            all.append(row(x, row)).append(' ');
         }
         return all.toString();
     }
 
-    static String state(Risingbag x) {
-        StringBuilder all = new StringBuilder(things(x));
-        for (int what = 0; what <= 5; what++) {
-            all.append(x.house(what)).append(' ');
+    static int[] house(Risingbag x) {
+        int[] house = new int[6];
+        for (int what = 0; what < 6; what++) {
+            house[what] = x.house(what);
         }
-        return all.append(x.digest()).toString();
+        return house;
+    }
+
+    static String state(Risingbag x) {
+        return things(x) + Arrays.toString(house(x)) + x.digest();
     }
 
     /** A new object with one row of these values. */

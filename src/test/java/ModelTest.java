@@ -8,7 +8,8 @@ import java.util.TreeMap;
 /** All promises: long runs of calls, each answered by the class and by a model on the Java library. */
 final class ModelTest {
     private static final int RUNS = 600;
-    private static final int CALLS = 512;
+    // With a digest behind every eighth of them that makes 504: the document gives an object 512.
+    private static final int CALLS = 448;
     private static final String[] NAMES = {
         "make", "set", "tag", "swap", "add", "fill", "ramp", "resize", "sort", "sortPart", "sortHalves", "sortBy",
         "rise", "copy", "copyPart", "merge", "compare", "mismatch", "areEqual", "areAlike", "kind", "size", "at",

@@ -106,10 +106,10 @@ final class RowsTest {
         c.argument(x, "tag(2, 0, 100)", () -> x.tag(2, 0, 100));
         c.argument(x, "tag(2, 0, -1)", () -> x.tag(2, 0, -1));
         for (int kind = 0; kind < 4; kind++) {
-            x.make(3, kind, 1);
-            c.illegalState(x, "tag(3, 0, 1)", () -> x.tag(3, 0, 1));
-            c.argument(x, "tag(3, 0, 100)", () -> x.tag(3, 0, 100));
-            c.index(x, "tag(3, 1, 1)", () -> x.tag(3, 1, 1));
+            Risingbag y = Check.with(3, kind, 1);
+            c.illegalState(y, "tag(3, 0, 1)", () -> y.tag(3, 0, 1));
+            c.argument(y, "tag(3, 0, 100)", () -> y.tag(3, 0, 100));
+            c.index(y, "tag(3, 1, 1)", () -> y.tag(3, 1, 1));
         }
     }
 
@@ -153,13 +153,13 @@ final class RowsTest {
         for (int kind = 0; kind <= 4; kind++) {
             int least = LEAST_OF[kind];
             int most = MOST_OF[kind];
-            x.make(1, kind, 0);
-            c.same("add the least", x.add(1, least), 1);
-            c.same("add the most", x.add(1, most), 2);
-            c.same("text", x.text(1), "[" + least + ", " + most + "]");
+            Risingbag y = Check.with(1, kind);
+            c.same("add the least", y.add(1, least), 1);
+            c.same("add the most", y.add(1, most), 2);
+            c.same("text", y.text(1), "[" + least + ", " + most + "]");
             if (kind >= 2) {
-                c.argument(x, "add below the least", () -> x.add(1, least - 1));
-                c.argument(x, "add above the most", () -> x.add(1, most + 1));
+                c.argument(y, "add below the least", () -> y.add(1, least - 1));
+                c.argument(y, "add above the most", () -> y.add(1, most + 1));
             }
         }
     }
@@ -216,11 +216,9 @@ final class RowsTest {
         c.index(x, "ramp(6, 10000, 0, 0)", () -> x.ramp(6, 10000, 0, 0));
         c.index(x, "ramp(-1, 0, 0, 1)", () -> x.ramp(-1, 0, 0, 1));
         for (int kind = 1; kind <= 4; kind++) {
-            Check.put(x, 2, kind, 4, 5);
-            c.same("ramp of kind " + kind, x.ramp(2, 1, 1, 100), -9);
-            c.same("text", x.text(2), "[4, 5]");
-            c.same("refusals", x.house(4), kind);
-            c.argument(x, "an exception goes ahead of -9", () -> x.ramp(2, 1, 1, 0));
+            Risingbag y = Check.with(2, kind, 4, 5);
+            c.refused(y, "ramp of kind " + kind, () -> y.ramp(2, 1, 1, 100));
+            c.argument(y, "an exception goes ahead of -9", () -> y.ramp(2, 1, 1, 0));
         }
     }
 

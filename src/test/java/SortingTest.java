@@ -110,9 +110,9 @@ final class SortingTest {
         c.index(x, "sortBy(6, 5)", () -> x.sortBy(6, 5));
         c.index(x, "sortBy(-1, 0)", () -> x.sortBy(-1, 0));
         for (int kind = 0; kind < 4; kind++) {
-            Check.put(x, 2, kind, 3, 1);
-            c.illegalState(x, "sortBy(2, 0)", () -> x.sortBy(2, 0));
-            c.argument(x, "the argument goes first", () -> x.sortBy(2, 5));
+            Risingbag y = Check.with(2, kind, 3, 1);
+            c.illegalState(y, "sortBy(2, 0)", () -> y.sortBy(2, 0));
+            c.argument(y, "the argument goes first", () -> y.sortBy(2, 5));
         }
     }
 
