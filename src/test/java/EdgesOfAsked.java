@@ -412,6 +412,8 @@ final class EdgesOfAsked extends Edges {
         tells(0, new int[] {9, 7, 9, 7}, 7, (x, row) -> x.mode(row));
         tells(0, new int[] {5, 9, 7, 9, 7, 1}, 7, (x, row) -> x.mode(row));
         tells(0, new int[] {-1, -2}, -2, (x, row) -> x.mode(row));
+        tells(0, new int[] {0, -1}, -1, (x, row) -> x.mode(row));
+        tells(0, new int[] {1, 0}, 0, (x, row) -> x.mode(row));
         tells(1, new int[] {MOST, LEAST}, LEAST, (x, row) -> x.mode(row));
         tells(1, new int[] {MOST, LEAST, MOST}, MOST, (x, row) -> x.mode(row));
         tells(0, steps(24, 50, -1), 27, (x, row) -> x.mode(row));

@@ -14,6 +14,7 @@ final class EdgesOfSorting extends Edges {
         sortHalves();
         sortHalvesRefused();
         sortBy();
+        sortByLastDigit();
         sortByArguments();
         riseOnce();
         riseOfRising();
@@ -111,6 +112,9 @@ final class EdgesOfSorting extends Edges {
                 c.same("it is counted once", x.house(3), 1);
             }
         }
+        Risingbag low = with(1, -5, LEAST, -9, -1, LEAST);
+        c.same("values below 0", low.sortHalves(2, 3), 2);
+        c.same("text", low.text(2), list(LEAST, -9, -5, LEAST, -1));
         Risingbag x = with(4, 1, 1, 0, 1, 1);
         c.same("like ones in both", x.sortHalves(2, 2), 2);
         c.same("they keep their sequence", x.tags(2), "[10, 11, 12, 13, 14]");
@@ -160,6 +164,15 @@ final class EdgesOfSorting extends Edges {
             }
         }
         changes(() -> six(4, 1, 3, 2), 3, "4[3, 2, 1][11, 12, 10]", (x, row) -> x.sortBy(row, 1));
+    }
+
+    private void sortByLastDigit() {
+        promise(13);
+        sentences("Sorts PAIRS by a WAY.", "- `way`: the WAY");
+        Risingbag x = with(4, -999, 998, -1, 0, -10, 1, -2, 11, 10);
+        x.sortBy(2, 4);
+        c.same("text", x.text(2), "[0, -10, 10, -1, 1, 11, -2, 998, -999]");
+        c.same("tags", x.tags(2), "[13, 14, 18, 12, 15, 17, 16, 11, 10]");
     }
 
     private static Risingbag pairs() {
